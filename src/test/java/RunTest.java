@@ -10,6 +10,8 @@ public final class RunTest {
         stepsAndStop();
         stopPassesGuards();
         stopInCalledPlans();
+        allStepsAreCalls();
+        allStepsAreOpen();
         holds();
         heldAgain();
         holdFails();
@@ -55,10 +57,11 @@ public final class RunTest {
     }
 
     private static void toldAnew() {
-        HeldShelves x = Due.with("TRY 0, HOLD 0, CALL 1, END, END, FAIL 9");
+        HeldShelves x = Due.with("TRY 0, HOLD 0, CALL 1, END, END, TRY 9, FAIL 9, END, FAIL 9");
         Due.plan(x, 1, "FAIL 8");
         Due.is("run", x.run(0, 64), 1);
-        Due.told("failed", x, 9, 0, 5, 5, 1, 1, 1, 1);
+        Due.told("failed", x, 9, 0, 8, 7, 1, 1, 2, 1);
+        Due.caught("failed", x, 0, 0, 0, 0, 0, 0, 0, 1, 1);
         Due.is("run of no acts", x.run(2, 64), 0);
         Due.told("anew", x, 0, -4, -4, 0, 0, 0, 0, 0);
         Due.caught("anew", x, 0, 0, 0, 0, 0, 0, 0, 0, 0);
@@ -122,6 +125,30 @@ public final class RunTest {
         Due.told("itself", z, 0, 0, 1, 7, 0, 0, 0, 3);
     }
 
+    /** As many calls as there are steps, each of a plan that ends at once or is ended by then. */
+    private static void allStepsAreCalls() {
+        HeldShelves x = new HeldShelves();
+        Due.plan(x, 0, "CALL 1");
+        Due.plan(x, 1, "CALL 2, ".repeat(39) + "CALL 2");
+        Due.plan(x, 0, "CALL 2, ".repeat(22) + "CALL 2");
+        Due.is("64 calls", x.run(0, 64), 0);
+        Due.told("64 calls", x, 0, -4, -4, 64, 0, 0, 0, 64);
+        Due.plan(x, 0, "PASS");
+        Due.is("64 calls, one to come", x.run(0, 64), 2);
+        Due.told("64 calls, one to come", x, 0, 0, 24, 64, 0, 0, 0, 64);
+    }
+
+    /** As many blocks and calls open at a time as there are steps. */
+    private static void allStepsAreOpen() {
+        HeldShelves x = new HeldShelves();
+        for (int plan = 0; plan < 5; plan++) {
+            Due.plan(x, plan, "HOLD 0, ".repeat(15) + "CALL " + (plan + 1) + ", END".repeat(15));
+        }
+        Due.is("all open", x.run(0, 64), 2);
+        Due.told("all open", x, 0, 4, 0, 64, 60, 60, 0, 4);
+        Due.shelf("all open", x, 0, 0, 60);
+    }
+
     private static void holds() {
         HeldShelves x = Due.with("HOLD 0, HOLD 1, END, END, HOLD 2, HOLD 3, HOLD 0, END, END, END");
         Due.is("run", x.run(0, 64), 0);
@@ -170,6 +197,7 @@ public final class RunTest {
         HeldShelves y = Due.with("HOLD 0, TAKE 0 9, END");
         y.shelf(0, 9);
         Due.is("down to 0", y.run(0, 64), 0);
+        Due.shelf("down to 0", y, 0, 0, 0);
         y.shelf(0, 8);
         Due.is("short", y.run(0, 64), 1);
         Due.told("short", y, 4, 0, 1, 2, 1, 1, 0, 0);

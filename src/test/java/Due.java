@@ -2,6 +2,10 @@ import java.util.List;
 
 /** What the tests share: answers that are due, and plans written as words. */
 final class Due {
+    /** Numbers far outside every bound of the document, on either side. */
+    static final int FAR = Integer.MAX_VALUE;
+    static final int LOW = Integer.MIN_VALUE;
+
     private static final List<String> KINDS = List.of(
             "HOLD", "TRY", "END", "PUT", "TAKE", "SHARE", "MOVE", "FAIL", "CALL", "PASS");
 
@@ -46,6 +50,12 @@ final class Due {
         HeldShelves x = new HeldShelves();
         plan(x, 0, acts);
         return x;
+    }
+
+    /** Runs plan 0 and looks at the answer and at what is told: as many numbers as are given. */
+    static void run(String name, HeldShelves x, int steps, int want, int... wants) {
+        is(name + ": run(0, " + steps + ")", x.run(0, steps), want);
+        told(name, x, wants);
     }
 
     static void told(String name, HeldShelves x, int... wants) {

@@ -156,7 +156,7 @@ public final class HeldShelves {
         // A turn is a step or the end of a called plan; each call is a step, so there are no
         // more such ends than steps, and one turn more finds the end of the run.
         for (int turn = 0; turn <= 2 * MOST_STEPS; turn++) {
-            if (next >= plans[planNow].size()) {
+            if (!isPlan(planNow) || next >= plans[planNow].size()) {
                 if (level <= 1) {
                     return RAN_TO_END;
                 }
@@ -334,7 +334,7 @@ public final class HeldShelves {
         }
 
         int kindOf(int act) {
-            return digitsOf(act) / 1000;
+            return act >= 0 && act < count ? acts[act] / 1000 : PASS;
         }
 
         int aOf(int act) {
@@ -350,7 +350,7 @@ public final class HeldShelves {
         }
 
         private int digitsOf(int act) {
-            return act >= 0 && act < count ? acts[act] : PASS * 1000;
+            return act >= 0 && act < count ? acts[act] : 0;
         }
 
         boolean isClosed() {
@@ -458,7 +458,7 @@ public final class HeldShelves {
             if (!isShelf(shelf)) {
                 return INDEX;
             }
-            return isThere(shelf) ? NO_FAILURE : NOTHING;
+            return goods[shelf] != NOT_THERE ? NO_FAILURE : NOTHING;
         }
 
         void holdOnce(int shelf) {

@@ -1,9 +1,10 @@
 import java.util.ArrayList;
+import java.util.Arrays;
 import java.util.List;
 
 /**
  * The document read once more, in another way: a plan is done by recursion over its blocks, and a
- * failure or the stop is a Java exception. It takes right arguments only.
+ * failure or the stop is a Java exception. It has the whole face and takes any arguments.
  */
 final class Model {
     private static final class Failure extends RuntimeException {
@@ -32,13 +33,16 @@ final class Model {
         }
     }
 
-    final List<List<int[]>> plans = new ArrayList<>();
-    final Integer[] goods = {0, 0, 0, 0, null, null, null, null};
-    final int[] left = new int[8];
-    final int[] held = new int[8];
-    final int[] told = {0, -4, -4, 0, 0, 0, 0, 0};
-    final int[] caught = new int[10];
-    int rest = 0;
+    /** Those of a, b, c that each kind names. */
+    private static final String[] NAMED = {"a", "a", "", "ab", "ab", "ab", "abc", "a", "a", ""};
+
+    private final List<List<int[]>> plans = new ArrayList<>();
+    private final Integer[] goods = {0, 0, 0, 0, null, null, null, null};
+    private final int[] left = new int[8];
+    private final int[] held = new int[8];
+    private final int[] told = {0, -4, -4, 0, 0, 0, 0, 0};
+    private final int[] caught = new int[10];
+    private int rest = 0;
     private int steps;
     private int open;
 
@@ -48,7 +52,39 @@ final class Model {
         }
     }
 
-    boolean closed(int plan) {
+    int act(int plan, int kind, int... numbers) {
+        if (plan < 0 || plan > 5 || kind < 0 || kind > 9) {
+            return -1;
+        }
+        for (int i = 0; i < NAMED[kind].length(); i++) {
+            if (numbers[i] > 9 || numbers[i] < (kind == 7 ? 7 : 0)) {
+                return -1;
+            }
+        }
+        if (plans.get(plan).size() == 40) {
+            return -2;
+        }
+        plans.get(plan).add(new int[] {kind, numbers[0], numbers[1], numbers[2]});
+        return plans.get(plan).size() - 1;
+    }
+
+    int clear(int plan) {
+        if (plan < 0 || plan > 5) {
+            return -1;
+        }
+        int had = plans.get(plan).size();
+        plans.get(plan).clear();
+        return had;
+    }
+
+    int closed(int plan) {
+        if (plan < 0 || plan > 5) {
+            return -1;
+        }
+        return isClosed(plan) ? 1 : 0;
+    }
+
+    private boolean isClosed(int plan) {
         StringBuilder brackets = new StringBuilder();
         for (int[] act : plans.get(plan)) {
             brackets.append(act[0] < 2 ? "(" : act[0] == 2 ? ")" : "");
@@ -60,12 +96,25 @@ final class Model {
         return text.isEmpty();
     }
 
+    int shelf(int shelf, int number) {
+        if (shelf < 0 || shelf > 7 || number < -1 || number > 1000) {
+            return -1;
+        }
+        int had = goods[shelf] == null ? -4 : goods[shelf];
+        goods[shelf] = number == -1 ? null : Integer.valueOf(number);
+        left[shelf] = 0;
+        return had;
+    }
+
     int run(int plan, int steps) {
-        if (!closed(plan)) {
+        if (plan < 0 || plan > 5 || steps < 0 || steps > 64) {
+            return -1;
+        }
+        if (!isClosed(plan)) {
             return -3;
         }
-        java.util.Arrays.fill(told, 0);
-        java.util.Arrays.fill(caught, 0);
+        Arrays.fill(told, 0);
+        Arrays.fill(caught, 0);
         told[1] = -4;
         told[2] = -4;
         this.steps = steps;
@@ -191,12 +240,30 @@ final class Model {
             }
             case 7 -> throw new Failure(a, plan, at);
             case 8 -> {
-                need(a < 6 && level < 5 && closed(a), 6, plan, at);
+                need(a < 6 && level < 5 && isClosed(a), 6, plan, at);
                 told[7]++;
                 doActs(a, 0, plans.get(a).size(), level + 1);
             }
             default -> { }
         }
+    }
+
+    int told(int what) {
+        return what < 0 || what > 7 ? -1 : told[what];
+    }
+
+    int caught(int failure) {
+        return failure < 1 || failure > 9 ? -1 : caught[failure];
+    }
+
+    int about(int shelf, int what) {
+        if (shelf < 0 || shelf > 7 || what < 0 || what > 1) {
+            return -1;
+        }
+        if (goods[shelf] == null) {
+            return -3;
+        }
+        return what == 0 ? goods[shelf] : left[shelf];
     }
 
     int first(int least) {
@@ -217,7 +284,13 @@ final class Model {
         return 8;
     }
 
-    int inAll() {
+    int rest() {
+        int had = rest;
+        rest = 0;
+        return had;
+    }
+
+    int goods() {
         int sum = 0;
         for (Integer number : goods) {
             sum += number == null ? 0 : number;

@@ -91,6 +91,8 @@ public final class PlansTest {
             Due.shelf("from", x, 0, 9 - c, 0);
             Due.shelf("to", x, 7, 2 * c, 0);
         }
+        Due.run("the greatest numbers", Due.with("PASS, MOVE 9 9 9"), 64, 1, 1, 0, 1);
+        Due.run("the least numbers", Due.with("MOVE 0 0 0, HOLD 0, PUT 0 0, TAKE 0 0, END"), 64, 0, 0);
     }
 
     // "what a KIND does not name is not looked at"

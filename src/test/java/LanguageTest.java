@@ -9,7 +9,7 @@ import java.util.Set;
 import java.util.TreeSet;
 import java.util.regex.Pattern;
 
-/** The face of the document, and those rules of LANGUAGE.md that a test can see. Its argument is the source's path. */
+/** The face of the document, and those rules of LANGUAGE.md that a test can see. */
 public final class LanguageTest {
     private static final Set<String> FACE = new TreeSet<>(Arrays.asList(
             "act(int,int,int,int,int)", "clear(int)", "closed(int)", "shelf(int,int)", "run(int,int)",
@@ -28,7 +28,7 @@ public final class LanguageTest {
         for (Class<?> inside : face.getDeclaredClasses()) {
             inside(inside);
         }
-        words(Files.readString(Path.of(args[0])));
+        words(Files.readString(Path.of("src/main/java/HeldShelves.java")));
         Due.end();
     }
 
